@@ -420,7 +420,8 @@ public final class ClaimJudge {
             if (statement >= size) {
                 return NONE;
             }
-            int right = operandValue(operands[statement], triple);
+            int operand = operands[statement];
+            int right = operand < VALUES ? operand : valueOf(triple, operand - VALUES);
             if (kinds[statement] == ASSIGNMENT) {
                 int value = (right + addends[statement]) & 7;
                 return placeOf(statement + 1, withValue(triple, variables[statement], value));
@@ -443,10 +444,6 @@ public final class ClaimJudge {
                 default:
                     return left != right;
             }
-        }
-
-        private static int operandValue(int operand, int triple) {
-            return operand < VALUES ? operand : valueOf(triple, operand - VALUES);
         }
     }
 

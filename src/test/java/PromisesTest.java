@@ -43,6 +43,7 @@ public final class PromisesTest {
         undo();
         savedStates();
         digest();
+        answersFollowChanges();
         severalExceptions();
         refusedCallsChangeNothing();
         Checks.finish();
@@ -209,8 +210,8 @@ public final class PromisesTest {
 
     /** Those that hold and those that do not take turns. */
     private static void runTests() {
-        String[] texts = {"x=2", "x=3", "x<3", "x<2", "x>1", "x>2", "x#3", "x#2", "x=x", "x#x", "x<y", "y<x", "y>x", "x>y",
-            "z=6", "y=x", "y#x", "z<y", "z<7", "z>7"};
+        String[] texts = {"x=2", "x=3", "x<3", "x<2", "x>1", "x>2", "x#3", "x#2", "x=x", "x#x", "x<y", "y<x",
+            "y>x", "x>y", "z=6", "y=x", "y#x", "z<y", "z<7", "z>7"};
         for (int n = 0; n < texts.length; n++) {
             boolean holds = n % 2 == 0;
             int claimed = Checks.of("z:z;!" + texts[n]).run(2, 3, 6);
@@ -376,6 +377,7 @@ public final class PromisesTest {
         judge.assume(0, 7, 7);
         Checks.same("16: refuted at 0", 2, judge.proof());
         Checks.same("16: no claim", 1, Checks.of("x:1").proof());
+        Checks.same("16: refuted by a single run", 2, Checks.of("?x#3@3;?y#7@3;!z#5").proof());
         Checks.same("16: refuted goes before endless", 2, Checks.of("!x=0;?x=0@1").proof());
     }
 
@@ -432,7 +434,8 @@ public final class PromisesTest {
         judge.assume(0, 3, 4);
         Checks.same("19: not reached", ClaimJudge.NONE, judge.greatest(1, 0));
         Checks.same("19: not reached", ClaimJudge.NONE, judge.greatest(1, 2));
-        Checks.same("19: the end is not reached by an endless run", ClaimJudge.NONE, Checks.of("?x=x@0").greatest(1, 1));
+        Checks.same("19: the end is not reached by an endless run", ClaimJudge.NONE,
+                Checks.of("?x=x@0").greatest(1, 1));
         ClaimJudge loop = Checks.of("x:x+1;?x#7@0");
         loop.assume(0, 0, 0);
         Checks.same("19: every visit counts", 6, loop.greatest(0, 0));
@@ -502,8 +505,8 @@ public final class PromisesTest {
     }
 
     private static void firstError() {
-        String[] fitting = {"", "x", "x:", "x:y", "x:7", "x:y+", "x:y-", "x:y+7", "x:0-0", "x:1;", "!", "!x", "!x=", "!x#z",
-            "!x<7", "?", "?y", "?y>", "?y>0", "?y>0@", "?y>0@0", "?y>0@1", "?y>0@10", "?y>0@11", "?y>0@12", "?y>0@9;x",
+        String[] fitting = {"", "x", "x:", "x:y", "x:7", "x:y+", "x:y-", "x:y+7", "x:0-0", "x:1;", "!", "!x", "!x=", 
+            "!x#z", "!x<7", "?", "?y", "?y>", "?y>0", "?y>0@", "?y>0@0", "?y>0@1", "?y>0@10", "?y>0@11", "?y>0@12", "?y>0@9;x",
             "?y>0@12;!", TWELVE, "x:1;!y=2;?z<3@7;x:x-1"};
         for (String text : fitting) {
             misfit(text, text.length());
@@ -632,6 +635,33 @@ public final class PromisesTest {
             hash = 31 * hash + value;
         }
         return hash;
+    }
+
+    private static void asks(String when, ClaimJudge judge, int end, int proof) {
+        Checks.same(when + ": run(0, 0, 0)", end, judge.run(0, 0, 0));
+        Checks.same(when + ": proof()", proof, judge.proof());
+    }
+
+    /** Each change comes after questions, so that an answer kept from before would be seen. */
+    private static void answersFollowChanges() {
+        ClaimJudge judge = new ClaimJudge();
+        asks("new", judge, 1000, 1);
+        Checks.load(judge, "!x=1");
+        asks("2: after load()", judge, 0, 2);
+        Checks.load(judge, "x:1");
+        asks("2: after load()", judge, 1064, 1);
+        Checks.add(judge, "?x=1@0");
+        asks("3: after add()", judge, ClaimJudge.NONE, 0);
+        judge.removeLast();
+        asks("4: after removeLast()", judge, 1064, 1);
+        judge.undo();
+        asks("24: after undo()", judge, ClaimJudge.NONE, 0);
+        Checks.load(judge, "!z=0");
+        asks("2: after load()", judge, 1000, 2);
+        judge.assume(2, 0, 0);
+        asks("12: after assume()", judge, 1000, 1);
+        judge.undo();
+        asks("24: after undo()", judge, 1000, 2);
     }
 
     private static void severalExceptions() {
